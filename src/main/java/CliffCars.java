@@ -762,7 +762,7 @@ public final class CliffCars {
         /** E: the moments at which it holds, as bits. */
         private int either(int depth) {
             int moments = both(depth);
-            while (peek() == '|') {
+            while (at < length && peek() == '|') {
                 at++;
                 moments |= both(depth);
             }
@@ -771,7 +771,7 @@ public final class CliffCars {
 
         private int both(int depth) {
             int moments = single(depth);
-            while (peek() == '&') {
+            while (at < length && peek() == '&') {
                 at++;
                 moments &= single(depth);
             }
