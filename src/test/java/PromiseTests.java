@@ -561,6 +561,10 @@ public final class PromiseTests {
         x.come(9, 1, 0);
         // FULL in the last STEP takes the one that is left
         facts(x, 6, 3, 0, 1 + 1 + 9, 0, 12, 2, -5, -5, 5, -5, -5, -5, -5, -5, -5, -5, -5, 3);
+        x.rule(2, 0);
+        x.come(1, 1, 1);
+        // BELL by 1: in each STEP, as RULE does
+        facts(x, 7, 4, 0, 0, 0, 20 - 3 - 3 - 5, 3, 3, 3, 5, -5);
         x = plain("");
         x.rule(1, 0);
         x.come(0, 1, 5);
@@ -1018,10 +1022,15 @@ public final class PromiseTests {
         due("nothing changed", x.read(0, 59), 0);
         x.item(0, 3, 9);
         due("holds nothing", x.tape(0, -1, 61), 1);
+        due("nothing to read", x.read(0, 0), NO);
         due("nothing", x.item(0, 0, 1), -11);
         due("holds nothing", x.tape(1, -1, -1), 1);
         due("a new row", x.tape(0, 0, 4), 1);
         due("is all 0", x.read(0, 3), 0);
+        x.item(0, 0, 5);
+        x.item(0, 3, 6);
+        due("again a row", x.tape(0, 2, 4), 1);
+        same(x, 0, 0, 0, 0, 0);
     }
 
     private static void items() {
