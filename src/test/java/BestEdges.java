@@ -12,6 +12,7 @@ public final class BestEdges {
         aheadOfWhatComes();
         aheadBeyondEight();
         moreThanNone();
+        leftOfADay();
         cannotBe();
         waitsOfNone();
         waitsAtTheEdges();
@@ -75,6 +76,10 @@ public final class BestEdges {
         due("one waits already", x.waits(11, 3, 0, 1, 0), 200);
         x.come(11, 0, 2);
         due("two ABOVE come, too", x.waits(11, 0, 0, 0, 0), 102);
+        due("two ABOVE come, too: a TRIP for none", x.waits(11, 0, 0, 0, 1), 100);
+        x.come(11, 0, 1);
+        due("one ABOVE comes, too: a TRIP for 1", x.waits(11, 0, 0, 0, 1), 99);
+        due("one more waits there", x.waits(11, 0, 1, 0, 1), 100);
         x.come(11, 0, 0);
         x.come(10, 1, 6);
         due("what came in STEP 10 is not there in STEP 11", x.waits(11, 20, 0, 0, 0), 117);
@@ -118,6 +123,31 @@ public final class BestEdges {
         x.come(11, 1, 2);
         // none: one down and two up for 3 in STEP 11; one down first: then two up want 5 of 3
         due("one down for 2 takes the water of two up", x.waits(10, 5, 1, 0, 1), 3 - 202);
+    }
+
+    private static void leftOfADay() {
+        Answers.sentence("WORTH of what is left of a DAY: by its STEP, its POND, those ABOVE and those BELOW");
+        CliffCars x = plain("");
+        x.come(11, 1, 1);
+        // the one ABOVE, if it goes in STEP 10, does not help the one who comes in STEP 11
+        due("by those ABOVE alone", x.waits(10, 20, 1, 0, 1), 117 - 119);
+        x = plain(";spring 20 s=10");
+        // one goes up in STEP 9, and the SPRING fills the POND again
+        due("by those BELOW alone", x.waits(9, 20, 0, 1, 1), 120 - 117);
+        x = plain(";tank 0");
+        x.come(2, 1, 1);
+        x.come(11, 0, 1);
+        x.come(11, 1, 1);
+        // without water two go down for each who goes up: in STEPS 2 and 11, if of three none goes in STEP 0
+        due("by those ABOVE and BELOW", x.waits(0, 20, 3, 0, 1), 20 - 220);
+        x = Answers.on("part 1;head 1;seats 2;drag 99 s>1&s<11");
+        for (int k = 0; k < 3; k++) {
+            x.come(k, 1, 6);
+            x.come(k, 0, k < 2 ? 1 : 0);
+        }
+        x.come(11, 0, 6);
+        // two up with one down in STEP 0 take both pints; with two down in STEPS 1 and 11 a pint each
+        due("by the POND and those ABOVE", x.waits(0, 2, 0, 0, 1), 200 - 400);
     }
 
     private static void cannotBe() {

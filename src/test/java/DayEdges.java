@@ -34,6 +34,8 @@ public final class DayEdges {
         spares();
         spareOfNone();
         told();
+        bestByWhatThePondHas();
+        bestOneByOne();
         greatPonds();
         whatsOfDays();
         Answers.end();
@@ -731,6 +733,54 @@ public final class DayEdges {
         x.come(0, 0, 0);
         due("no TRIP that can't be", x.day(two, STEP), NOT_ANY);
         due("the next one is", x.day(two, STEP + 1), 0);
+    }
+
+    private static void bestByWhatThePondHas() {
+        Answers.sentence("BEST: a later TRIP that CAN't be is worth nothing");
+        CliffCars x = plain("");
+        x.rule(BEST, 0);
+        x.rule(SPARE, 0);
+        x.rule(SPARE, 1);
+        x.rule(SPARE, 2);
+        x.come(0, 1, 1);
+        x.come(1, 1, 1);
+        // two take 5: with 4 the first must go alone, in STEP 0
+        x.pond(4);
+        for (int rule = 0; rule < 3; rule++) {
+            facts(x, rule, 1, 0, 11, 0, 1, 1);
+            trips(x, rule, 3);
+        }
+        facts(x, 3, 0, 0, 1 + 2 * 11, 0, 4, 0);
+        x.pond(5);
+        for (int rule = 0; rule < 2; rule++) {
+            facts(x, rule, 2, 0, 1 + 2 * 10, 0, 0, 1);
+            due("both in the last STEP", x.day(rule, STEP + 11), 5);
+        }
+        facts(x, 2, 1, 0, 11, 0, 2, 1);
+        facts(x, 3, 1, 0, 11, 0, 2, 1);
+        x.pond(6);
+        facts(x, 2, 2, 0, 1 + 2 * 10, 0, 1, 1);
+        facts(x, 3, 1, 0, 11, 0, 3, 1);
+    }
+
+    private static void bestOneByOne() {
+        Answers.sentence("BEST: with one seat each STEP takes one; as late as may be");
+        CliffCars x = Answers.on("part 1;head 0;seats 1");
+        x.rule(BEST, 0);
+        x.come(0, 1, 1);
+        x.come(1, 1, 1);
+        x.pond(20);
+        int[] want = {NOT_ANY, NOT_ANY, NOT_ANY, NOT_ANY, NOT_ANY, NOT_ANY, NOT_ANY, NOT_ANY, NOT_ANY, NOT_ANY, 1, 1};
+        trips(x, 0, want);
+        facts(x, 0, 2, 0, 1 + 2 * 9 + 1, 0, 18, 2);
+        x.come(2, 1, 1);
+        want[9] = 1;
+        trips(x, 0, want);
+        facts(x, 0, 3, 0, 1 + 2 + 3 * 7 + 2 + 1, 0, 17, 3);
+        x.pond(2);
+        want[9] = NOT_ANY;
+        trips(x, 0, want);
+        facts(x, 0, 2, 0, 1 + 2 + 3 * 8 + 2 + 1, 0, 0, 2);
     }
 
     /** Two heads BELOW at first, one more in STEP 1; each needs the whole of the POND. */

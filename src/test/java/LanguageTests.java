@@ -7,7 +7,9 @@ import java.nio.file.Files;
 import java.nio.file.Path;
 import java.util.ArrayList;
 import java.util.List;
+import java.util.Map;
 import java.util.Set;
+import java.util.TreeMap;
 import java.util.TreeSet;
 import java.util.regex.Matcher;
 import java.util.regex.Pattern;
@@ -17,10 +19,14 @@ public final class LanguageTests {
     private static final Path PROGRAM = Path.of("src/main/java/CliffCars.java");
     private static final Path DOCUMENT = Path.of("../shared/DOC.md");
     private static final String[] NO_WORDS = {"throw", "throws", "try", "catch", "finally", "synchronized", "assert",
-        "import", "package", "protected", "volatile", "native", "transient", "default ->", "Object", "Thread",
-        "Random", "Exception", "Error", "equals", "hashCode", "toString", "double", "float", "var", "yield"};
-    private static final Set<String> LIBRARY = Set.of("Math.max", "Math.min", "Math.floorDiv", "System.arraycopy",
-        "Long.MIN_VALUE");
+        "package", "protected", "volatile", "native", "transient", "Thread", "Random", "hashCode", "nanoTime",
+        "currentTimeMillis"};
+    private static final Set<String> IMPORTS = Set.of("java.util.ArrayList", "java.util.List", "java.util.Arrays",
+        "java.util.Iterator");
+    private static final Pattern LIBRARY = Pattern.compile("System\\.arraycopy|Arrays\\.(copyOf|copyOfRange|fill)"
+        + "|(Math|Integer|Long)\\.(?!\\w*Exact\\b)\\w+");
+    /** "Some sixty lines", "some twelve classes", "some twenty fields". */
+    private static final int MOST_LINES = 66, MOST_CLASSES = 13, MOST_FIELDS = 22;
 
     private static int wrong = 0;
 
@@ -37,6 +43,7 @@ public final class LanguageTests {
         words(code);
         lengths(code);
         face();
+        constants();
         insideClasses();
         System.out.println(wrong == 0 ? "the language is kept" : wrong + " rules are broken");
         if (wrong != 0) {
@@ -54,12 +61,20 @@ public final class LanguageTests {
         for (String word : NO_WORDS) {
             hold(!Pattern.compile("\\b" + word + "\\b").matcher(code).find(), "the program says " + word);
         }
-        hold(!code.contains("->") && !code.contains("::"), "a lambda or a method reference");
+        hold(!code.contains("::"), "a method reference");
+        for (String line : code.split("\n")) {
+            boolean ofSwitch = line.trim().startsWith("case ") || line.trim().startsWith("default ");
+            hold(ofSwitch || !line.contains("->"), "a lambda: " + line.trim());
+        }
         hold(!Pattern.compile("static\\s*\\{").matcher(code).find(), "a static initialiser block");
         hold(!Pattern.compile("\"\\s*\\+|\\+\\s*\"").matcher(code).find(), "a text joined by +");
+        Matcher imports = Pattern.compile("\\bimport\\s+([\\w.*]+)").matcher(code);
+        while (imports.find()) {
+            hold(IMPORTS.contains(imports.group(1)), "the import of " + imports.group(1));
+        }
         Matcher calls = Pattern.compile("\\b(Math|System|Long|Integer|Arrays)\\.\\w+").matcher(code);
         while (calls.find()) {
-            hold(LIBRARY.contains(calls.group()), "the library's " + calls.group());
+            hold(LIBRARY.matcher(calls.group()).matches(), "the library's " + calls.group());
         }
     }
 
@@ -75,7 +90,7 @@ public final class LanguageTests {
             while (end < lines.length && !lines[end].equals(m.group(1) + "}")) {
                 end++;
             }
-            hold(end - k <= 60, "a method of more than 60 lines: " + lines[k].trim());
+            hold(end - k <= MOST_LINES, "a method of more than some sixty lines: " + lines[k].trim());
             hold(lines[k].split(",").length <= 7, "more than seven parameters: " + lines[k].trim());
         }
     }
@@ -91,7 +106,7 @@ public final class LanguageTests {
         }
         Set<String> have = new TreeSet<>();
         for (Method method : CliffCars.class.getDeclaredMethods()) {
-            if (Modifier.isPrivate(method.getModifiers())) {
+            if (Modifier.isPrivate(method.getModifiers()) || method.isSynthetic()) {
                 continue;
             }
             hold(Modifier.isPublic(method.getModifiers()), "neither public nor private: " + method);
@@ -102,16 +117,24 @@ public final class LanguageTests {
             have.add(method.getReturnType() + " " + method.getName() + "(" + String.join(",", types) + ")");
         }
         hold(want.size() == 31 && want.equals(have), "the face is " + have + ", the document's is " + want);
-        Set<String> constants = new TreeSet<>();
-        for (Field field : CliffCars.class.getDeclaredFields()) {
-            if (!Modifier.isPrivate(field.getModifiers())) {
-                constants.add(field.getName());
-            }
-        }
-        hold(constants.equals(Set.of("NONE", "BAD", "STATE", "FULL", "NO")), "the constants are " + constants);
         Constructor<?>[] makers = CliffCars.class.getDeclaredConstructors();
         hold(makers.length == 1 && Modifier.isPublic(makers[0].getModifiers()), "not one public constructor");
+        hold(makers.length == 1 && makers[0].getParameterCount() == 0, "a constructor that wants something");
         hold(Modifier.isFinal(CliffCars.class.getModifiers()), "the class is not final");
+        hold(Modifier.isPublic(CliffCars.class.getModifiers()), "the class is not public");
+    }
+
+    private static void constants() {
+        Map<String, String> constants = new TreeMap<>();
+        for (Field field : CliffCars.class.getDeclaredFields()) {
+            int is = field.getModifiers();
+            if (!Modifier.isPrivate(is) && !field.isSynthetic()) {
+                hold(Modifier.isPublic(is) && Modifier.isStatic(is) && Modifier.isFinal(is), "no constant: " + field);
+                constants.put(field.getName(), field.getType().getName());
+            }
+        }
+        Map<String, String> want = Map.of("NONE", "int", "BAD", "int", "STATE", "int", "FULL", "int", "NO", "long");
+        hold(constants.equals(want), "the constants are " + constants);
     }
 
     private static void insideClasses() {
@@ -123,7 +146,7 @@ public final class LanguageTests {
         }
         List<Class<?>> all = new ArrayList<>(List.of(CliffCars.class.getDeclaredClasses()));
         all.add(CliffCars.class);
-        hold(all.size() <= 12, "more than twelve classes");
+        hold(all.size() <= MOST_CLASSES, "more than some twelve classes");
         for (Class<?> one : all) {
             hold(one == CliffCars.class || Modifier.isStatic(one.getModifiers()), "not static: " + one);
             hold(one == CliffCars.class || !Modifier.isPublic(one.getModifiers()), "public: " + one);
@@ -133,10 +156,10 @@ public final class LanguageTests {
                 hold(!fixed || Modifier.isFinal(field.getModifiers()), "a static field that is not final: " + field);
                 fields += fixed ? 0 : 1;
             }
-            hold(fields <= 20, "more than twenty fields: " + one);
+            hold(fields <= MOST_FIELDS, "more than some twenty fields: " + one);
             for (Method method : one.getDeclaredMethods()) {
-                boolean ofFace = one == CliffCars.class && Modifier.isPublic(method.getModifiers());
-                hold(ofFace || !faceNames.contains(method.getName()), "a name of the face: " + method);
+                boolean hidden = Modifier.isPrivate(method.getModifiers());
+                hold(!hidden || !faceNames.contains(method.getName()), "a private method with a name of the face: " + method);
             }
         }
     }

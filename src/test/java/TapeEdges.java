@@ -140,6 +140,13 @@ public final class TapeEdges {
             x.item(0, 0, pints[k]);
             due(pints[k] + " pints", x.judge(0, 0), want[k]);
         }
+        x.come(0, 0, 2);
+        for (int k = 0; k < pints.length; k++) {
+            x.item(0, 0, pints[k]);
+            boolean goes = pints[k] >= -1 && pints[k] <= 6;
+            due(pints[k] + " pints with two down", x.judge(0, 0), goes ? NOT_ANY : 0);
+        }
+        x.come(0, 0, 0);
         x.item(0, 0, 5);
         x.pond(5);
         due("all that the POND has", x.judge(0, 0), NOT_ANY);
@@ -491,7 +498,22 @@ public final class TapeEdges {
             due("no act yet: " + k, x.trace(k), NONE);
         }
         due("no act yet", x.count(5), 0);
-        int[] want = {51, 12, 60, 11, 50, 10, 50, 10};
+        int[][] bodies = {
+            {10}, {11, 10}, {12, 11, 10},
+            {10}, {20, 11, 10}, {12, 20, 11, 10},
+            {30, 10}, {11, 30, 10}, {12, 11, 30, 10},
+            {10}, {11, 10}, {40, 12, 11, 10, 11, 10},
+            {50, 10}, {11, 50, 10}, {51, 12, 11, 50, 10},
+            {50, 10}, {60, 11, 50, 10, 50, 10}, {51, 12, 60, 11, 50, 10, 50, 10},
+            {10}, {11, 10}, {70, 11, 10, 12, 11, 10}};
+        for (int k = 0; k < bodies.length; k++) {
+            x.act(k / 3, k % 3, 1);
+            due("how many of " + k / 3 + ", " + k % 3, x.count(5), bodies[k].length);
+            for (int j = 0; j <= bodies[k].length; j++) {
+                due("body " + j + " of " + k / 3 + ", " + k % 3, x.trace(j), j < bodies[k].length ? bodies[k][j] : NONE);
+            }
+        }
+        int[] want = bodies[17];
         x.act(5, 2, 1);
         for (int k = 0; k < 25; k++) {
             due("body " + k, x.trace(k), k < want.length ? want[k] : NONE);

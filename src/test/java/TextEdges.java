@@ -10,6 +10,7 @@ public final class TextEdges {
         bytesOfANumber();
         hundredBytes();
         emptyThen();
+        nothingOfAnEarlierText();
         clausesAndBlanks();
         wordsOfClauses();
         digitsOfClauses();
@@ -37,8 +38,17 @@ public final class TextEdges {
         due("cliff() of " + text, Answers.read(new CliffCars(), text), 0);
     }
 
+    private static CliffCars faulty = new CliffCars();
+    private static int callsOfFaulty = 0;
+
+    /** A fault leaves no CLIFF behind, so one object bears many of them, in its 512 calls. */
     private static void fault(String text, int place) {
-        due("fault of " + text, Answers.read(new CliffCars(), text), -10 - place);
+        if (callsOfFaulty + text.length() + 1 > 512) {
+            faulty = new CliffCars();
+            callsOfFaulty = 0;
+        }
+        callsOfFaulty += text.length() + 1;
+        due("fault of " + text, Answers.read(faulty, text), -10 - place);
     }
 
     private static String times(int n, String s) {
@@ -152,6 +162,8 @@ public final class TextEdges {
         Answers.sentence("the end of THE TEXT, if it ends too early");
         fault(long99() + "|", 100);
         right(long99());
+        right("drag 1 s=10|s=11" + times(21, "|s=1"));
+        fault("drag 1 s=10|s=11" + times(20, "|s=1") + "|s=(", 99);
         fault(long99() + ";", 100);
         fault(long99() + "x", 99);
     }
@@ -171,6 +183,29 @@ public final class TextEdges {
         Answers.feed(x, "part 3;part 4");
         due("a fault behind 100 bytes is gone", x.cliff(), 2);
         due("its PARTS", x.of(0), 2);
+    }
+
+    private static void nothingOfAnEarlierText() {
+        Answers.sentence("THE TEXT, which is empty then: nothing of it comes behind a later one");
+        CliffCars x = Answers.on("part 12");
+        due("a shorter one", Answers.read(x, "part 1"), 1);
+        due("one digit", x.of(10), 1);
+        due("a longer number, faulty", Answers.read(x, "drag 1 s<115"), -21);
+        due("a shorter one", Answers.read(x, "drag 1 s<1"), 2);
+        due("STEP 0", x.told(0, 0), 1);
+        due("not STEP 1", x.told(0, 1), 0);
+        due("a right one", Answers.read(x, "rope 12;rope 3"), 3);
+        x = Answers.on("rope 1;rope 2;drag 1 s=1|s=2");
+        String[] texts = {"rop", "rope", "rope ", "rope 1;", "rope 1;rop", "rope 1;rope 2;drag 1", "rope 1;rope 2;drag 1 s",
+            "rope 1;rope 2;drag 1 s=", "rope 1;rope 2;drag 1 s=1|", "rope 1;rope 2;drag 1 s=1|s", ""};
+        for (String text : texts) {
+            due("fault of " + text, Answers.read(x, text), -10 - text.length());
+            due("a whole one", Answers.read(x, "rope 1;rope 2;drag 1 s=1|s=2x"), -38);
+        }
+        due("one alone", Answers.read(x, "rope 1"), 1);
+        due("one alone", x.of(1), 1);
+        due("one TEST alone", Answers.read(x, "rope 1;rope 2;drag 1 s=1"), 2);
+        due("one TEST alone", x.told(0, 2), 0);
     }
 
     private static void clausesAndBlanks() {
