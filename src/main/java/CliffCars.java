@@ -930,10 +930,10 @@ public final class CliffCars {
 
         /** WORTH from the beginning of a STEP on. */
         private static int worthFrom(Plan plan, int step, int pond, int above, int below) {
-            if (step >= STEPS) {
+            int place = ((step * (MOST_POND + 1) + pond) * CROWDS + above) * CROWDS + below;
+            if (step >= STEPS || place < 0 || place >= plan.known.length) {
                 return pond;
             }
-            int place = ((step * (MOST_POND + 1) + pond) * CROWDS + above) * CROWDS + below;
             if (plan.known[place] >> WORTH_BITS == plan.edition) {
                 return (int) plan.known[place] & WORTH_MASK;
             }
